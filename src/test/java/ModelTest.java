@@ -87,7 +87,8 @@ public final class ModelTest {
 
     private int of(int least, int most) {
         if (random.nextInt(60) == 0) {
-            return random.nextBoolean() ? least - 1 : most + 1;
+            int[] wrongOnes = {least - 1, least - 1, most + 1, most + 1, Integer.MIN_VALUE, Integer.MAX_VALUE};
+            return wrongOnes[random.nextInt(wrongOnes.length)];
         }
         return least + random.nextInt(most - least + 1);
     }
