@@ -1190,7 +1190,7 @@ public final class MotionRig {
             }
         }
 
-        double reckoned(int channel, int time, int depth) {
+        private double reckoned(int channel, int time, int depth) {
             if (depth > DEEPEST) {
                 return 0.0;
             }
@@ -1300,7 +1300,7 @@ public final class MotionRig {
             return ran;
         }
 
-        double asked(int channel, int depth) {
+        private double asked(int channel, int depth) {
             if (isSettled(channel) || depth > DEEPEST) {
                 return values[channel];
             }
@@ -1630,8 +1630,7 @@ public final class MotionRig {
                 int frame = codes[i] % 1000 - 100;
                 int now = sheet.keyOn(curve, frame);
                 boolean isThere = now == wished[i];
-                boolean isFree = now == base.keyOn(curve, frame)
-                        && (wished[i] == 0 || sheet.hasRoom(curve, frame));
+                boolean isFree = now == base.keyOn(curve, frame) && sheet.hasRoom(curve, frame);
                 if (!isThere && !isFree) {
                     clashes[clashCount] = codes[i];
                     clashCount++;
@@ -1645,7 +1644,6 @@ public final class MotionRig {
                 }
             }
             isBegun = false;
-            count = 0;
             return taken;
         }
 

@@ -189,6 +189,7 @@ public final class BonesTest {
         rig.setTime(9);
         Check.is("it follows no more", y, rig.place(0, false));
         Check.is("and asks for nothing", runs, rig.runs());
+        twoMarkers();
         MotionRig late = threeBones();
         int t = late.addChannel('t', 0, 0, 0, 0);
         int bone = late.addBone(-1, 64, t);
@@ -197,6 +198,21 @@ public final class BonesTest {
         late.setTime(16);
         Check.is("by where it was at the present time", -64.0, late.place(0, true));
         Check.is("by where it was at the present time", -64.0, late.place(0, false));
+    }
+
+    private static void twoMarkers() {
+        MotionRig rig = threeBones();
+        rig.addMarker();
+        rig.follow(0, 0, 1);
+        rig.setKey(0, 0, 0, 4, 's');
+        rig.follow(1, 1, 1);
+        Check.is("where it was, and not another one", 1, rig.follow(0, 0, 2));
+        Check.is("the first one", -20.0, rig.place(0, true));
+        Check.is("the second one", 0.0, rig.place(1, true));
+        rig.setKey(1, 0, 0, 4, 's');
+        Check.is("where it is now, and not when it was asked last", 1, rig.follow(1, 1, 3));
+        Check.is("the second one", -22.0, rig.place(1, true));
+        Check.is("the first one", -20.0, rig.place(0, true));
     }
 
     private static int limb(MotionRig rig, int length, int more) {

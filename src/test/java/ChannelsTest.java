@@ -348,6 +348,9 @@ public final class ChannelsTest {
         Check.is("back in time", 8.0, rig.value(p));
         rig.setKey(k, 0, 1, 2, 's');
         Check.is("places go when the spring becomes dirty", 9.0 + (1.0 - 1.0 * 0.375) - 0.5, rig.value(p));
+        rig.setTime(16);
+        Check.is("each spring has its own places", 16.0, rig.value(still));
+        Check.is("each spring has its own places", rig.valueAt(p, 16), rig.value(p));
         int begins = rig.addChannel('p', constant(rig, 33), 0, 1, 0);
         Check.is("the place at 0 is what its input is", 33.0, rig.value(begins));
     }
@@ -422,6 +425,39 @@ public final class ChannelsTest {
         Check.is("and leaves others", true, rig.isClean(other));
         rig.setTime(1);
         Check.is("the time does with all", false, rig.isClean(other));
+        dirtinessOfTwo();
+    }
+
+    private static void dirtinessOfTwo() {
+        MotionRig rig = new MotionRig();
+        int a = constant(rig, 4);
+        int b = constant(rig, 5);
+        int c = constant(rig, 6);
+        int sum = rig.addChannel('+', a, b, 0, 0);
+        int more = rig.addChannel('*', c, sum, 0, 0);
+        Check.is("value", 54.0, rig.value(more));
+        rig.setKey(b, 0, 0, 7, 's');
+        Check.is("over second inputs", false, rig.isClean(sum) || rig.isClean(more));
+        Check.is("but not the first ones", true, rig.isClean(a) && rig.isClean(c));
+        Check.is("value", 66.0, rig.value(more));
+        rig.setKey(a, 0, 0, 1, 's');
+        Check.is("over first and second inputs", false, rig.isClean(sum) || rig.isClean(more));
+        Check.is("value", 48.0, rig.value(more));
+        rig.setKey(c, 0, 0, 1, 's');
+        Check.is("not what it does not depend on", true, rig.isClean(sum));
+        Check.is("value", 8.0, rig.value(more));
+        Check.fails("a circle over second inputs", UnsupportedOperationException.class,
+            () -> rig.rejoin(sum, 0, more));
+        int last = rig.addChannel('-', sum, a, 0, 0);
+        rig.rejoin(more, 1, last);
+        rig.rejoin(more, 0, last);
+        rig.value(more);
+        rig.setKey(b, 0, 0, 8, 's');
+        Check.is("over a later one", false, rig.isClean(more) || rig.isClean(last));
+        int one = rig.addChannel('a', c, b, 0, 0);
+        rig.value(one);
+        rig.setKey(b, 0, 0, 9, 's');
+        Check.is("a second input that it has not is of no meaning", true, rig.isClean(one));
     }
 
     private static void askingAtATime() {

@@ -11,6 +11,7 @@ public final class CurvesTest {
         setting();
         settingWrong();
         removing();
+        apart();
         reading();
         steps();
         lines();
@@ -96,6 +97,26 @@ public final class CurvesTest {
         Check.is("the last one", 1000, rig.removeKey(0, 0, 3));
         Check.is("none is left", 0, rig.keys(0, 0));
         Check.is("and the value is 0", 0.0, rig.value(0));
+    }
+
+    /** Keys of one curve are none of the next one, full or not. */
+    private static void apart() {
+        MotionRig rig = rig();
+        rig.addLayer('+');
+        rig.setKey(0, 1, 5, 1, 's');
+        Check.fails("of the next layer", NoSuchElementException.class, () -> rig.removeKey(0, 0, 5));
+        for (int i = 0; i < 20; i++) {
+            rig.setKey(0, 0, 10 + i, i, 's');
+        }
+        Check.fails("of the next layer, behind 20", NoSuchElementException.class, () -> rig.removeKey(0, 0, 5));
+        Check.fails("not in place of it", IllegalStateException.class, () -> rig.setKey(0, 0, 5, 1, 's'));
+        Check.fails("not beside it", IllegalStateException.class, () -> rig.bake(0, 0, 5, 6));
+        Check.is("nor counted", 20, rig.bake(0, 0, 10, 29));
+        rig.removeKey(0, 0, 12);
+        Check.is("nor counted when it has room", 20, rig.bake(0, 0, 12, 12));
+        Check.is("nor moved", 1, rig.keys(0, 1));
+        Check.fails("nor read", NoSuchElementException.class, () -> rig.keyAt(0, 0, 20));
+        Check.is("twenty and one", 10.5, rig.meanKeys());
     }
 
     private static void reading() {
