@@ -14,6 +14,7 @@ public final class BakingTest {
         thinning();
         thinningByBound();
         thinningFromWhatIsLeft();
+        thinningFull();
         thinningEdit();
         thinningWrong();
         Check.end("BakingTest");
@@ -204,6 +205,19 @@ public final class BakingTest {
         MotionRig next = curve(0, 0, 1, 5, 2, 10, 3, 0);
         Check.is("to the next one, which is there yet", 1, next.thin(0, 0, 0));
         Check.is("what is left", 2, next.keyAt(0, 0, 1));
+    }
+
+    private static void thinningFull() {
+        MotionRig rig = curve();
+        rig.addLayer('+');
+        for (int i = 0; i < 20; i++) {
+            rig.setKey(0, 0, i, i % 2 * 1000, 's');
+        }
+        rig.setKey(0, 1, 50, 0, 's');
+        Check.is("none of these", 0, rig.thin(0, 0, 10));
+        Check.is("all but the first and the last one", 18, rig.thin(0, 0, 1000));
+        Check.is("the last one is left", 19, rig.keyAt(0, 0, 1));
+        Check.is("the next curve is another one", 50, rig.keyAt(0, 1, 0));
     }
 
     private static void thinningEdit() {

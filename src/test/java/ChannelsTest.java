@@ -200,6 +200,28 @@ public final class ChannelsTest {
             Check.is("floor of " + x, Math.floor(x) + 0.0, rig.valueAt(4, at));
             Check.is("ceil of " + x, Math.ceil(x) + 0.0, rig.valueAt(5, at));
         }
+        kindsOfSmall();
+    }
+
+    private static void kindsOfSmall() {
+        MotionRig rig = new MotionRig();
+        int t = rig.addChannel('t', 0, 0, 0, 0);
+        int cube = rig.addChannel('*', t, rig.addChannel('*', t, t, 0, 0), 0, 0);
+        int[] of = new int[5];
+        for (int i = 0; i < 5; i++) {
+            of[i] = rig.addChannel("asrfc".charAt(i), cube, 0, 0, 0);
+        }
+        int greater = rig.addChannel('x', cube, t, 0, 0);
+        int lesser = rig.addChannel('n', cube, t, 0, 0);
+        for (int at = -8; at <= 8; at++) {
+            double x = at / 4.0 * (at / 4.0 * (at / 4.0));
+            double[] due = {Math.abs(x), Math.signum(x), Math.rint(x), Math.floor(x), Math.ceil(x)};
+            for (int i = 0; i < 5; i++) {
+                Check.is("asrfc".charAt(i) + " of " + x, due[i] + 0.0, rig.valueAt(of[i], at));
+            }
+            Check.is("the greater one", Math.max(x, at / 4.0) + 0.0, rig.valueAt(greater, at));
+            Check.is("the lesser one", Math.min(x, at / 4.0) + 0.0, rig.valueAt(lesser, at));
+        }
     }
 
     private static void kindsOfTwo() {

@@ -110,6 +110,21 @@ public final class LayersTest {
         }
         Check.is("nothing has changed", 13.0, rig.value(0));
         Check.is("nothing has changed", 100, rig.weigh(1, 100));
+        weighingWithoutCurves();
+    }
+
+    private static void weighingWithoutCurves() {
+        MotionRig rig = new MotionRig();
+        rig.addChannel('t', 0, 0, 0, 0);
+        rig.addLayer('+');
+        rig.value(0);
+        rig.weigh(1, 99);
+        rig.mute(1, true);
+        rig.leaveOut(1, 0, true);
+        Check.is("the time has no curves", true, rig.isClean(0));
+        Check.is("an edit all the same", true, rig.undo());
+        Check.is("the time has no curves", true, rig.isClean(0));
+        Check.is("its weight", 100, rig.weigh(1, 100));
     }
 
     private static void muting() {

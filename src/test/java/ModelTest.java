@@ -60,7 +60,7 @@ public final class ModelTest {
     }
 
     private void add(int i) {
-        char kind = i < 2 ? 'k' : pick(KINDS);
+        char kind = i == 0 ? pick("kkkt") : i == 1 ? 'k' : pick(KINDS);
         int least = i > 4 && random.nextBoolean() ? i - 3 : 0;
         call("addChannel", kind, i == 0 ? 0 : least + random.nextInt(i - least),
             i == 0 ? 0 : random.nextInt(i), 1 + random.nextInt(8), random.nextInt(9));
