@@ -546,10 +546,10 @@ public final class MotionRig {
 
     /** What a call has changed in the sheet becomes one edit; a call that has changed nothing is none. */
     private void settle() {
-        if (!history.isCurrent(sheet)) {
-            int changed = history.changedChannels(sheet, channels);
+        int changes = history.changes(sheet, channels);
+        if (changes != 0) {
             history.push(sheet);
-            stage.spoil(changed);
+            stage.spoil(changes & Channels.ALL);
         }
     }
 
@@ -558,9 +558,9 @@ public final class MotionRig {
             return false;
         }
         history.move(step);
-        int changed = history.changedChannels(sheet, channels);
+        int changes = history.changes(sheet, channels);
         history.restore(sheet);
-        stage.spoil(changed);
+        stage.spoil(changes & Channels.ALL);
         return true;
     }
 
@@ -1326,6 +1326,7 @@ public final class MotionRig {
     private static final class History {
         private static final int STEPS = 20;
         private static final int ROWS = STEPS + 1;
+        private static final int OTHER_WEIGHTS = Channels.ALL + 1;
         private final int[] rows = new int[ROWS * Sheet.WIDTH];
         private int present;
         private int behind;
@@ -1335,30 +1336,22 @@ public final class MotionRig {
             Arrays.fill(rows, Sheet.WEIGHTS, Sheet.WIDTH, 100);
         }
 
-        boolean isCurrent(Sheet sheet) {
-            int[] row = sheet.row();
-            int begin = present * Sheet.WIDTH;
-            for (int i = 0; i < Sheet.WIDTH; i++) {
-                if (rows[begin + i] != row[i]) {
-                    return false;
-                }
-            }
-            return true;
-        }
-
-        /** The channels that get other keys, or another weight, when the sheet and the present row change places. */
-        int changedChannels(Sheet sheet, Channels channels) {
+        /**
+         * The channels with other keys, or of another weight, in the sheet than in the present row, and a bit for
+         * the weights themselves, as these can change where no channel has curves.
+         */
+        int changes(Sheet sheet, Channels channels) {
             int[] row = sheet.row();
             int begin = present * Sheet.WIDTH;
             int mask = 0;
-            for (int i = 0; i < Sheet.WEIGHTS; i++) {
+            for (int i = 0; i < channels.count() * Sheet.CHANNEL_SLOTS && i < Sheet.WEIGHTS; i++) {
                 if (rows[begin + i] != row[i]) {
                     mask |= 1 << i / Sheet.CHANNEL_SLOTS;
                 }
             }
             for (int i = Sheet.WEIGHTS; i < Sheet.WIDTH; i++) {
                 if (rows[begin + i] != row[i]) {
-                    mask |= channels.curvedOnes();
+                    mask |= OTHER_WEIGHTS | channels.curvedOnes();
                 }
             }
             return mask;
