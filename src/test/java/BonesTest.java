@@ -57,7 +57,7 @@ public final class BonesTest {
         int bone = rig.addBone(-1, 10, t);
         int next = rig.addBone(bone, 10, k);
         int last = rig.addBone(next, 10, t);
-        for (int at = -400; at <= 400; at += 3) {
+        for (int at = -400; at <= 400; at += 7) {
             rig.setTime(at);
             int turn = (int) Math.rint(at / 4.0);
             Check.is("its turn at " + at, Math.floorMod(turn, 8), rig.direction(bone));

@@ -196,7 +196,7 @@ final class ChannelEdges {
         Edge.is("with the least value", -1000.0, House.curve('s', 0, -1000).value(0));
         Edge.holds("Channels", "'t': the time divided by 4.");
         MotionRig rig = House.row("t");
-        for (int time = -400; time <= 400; time++) {
+        for (int time = -400; time <= 400; time += Math.abs(time) < 50 ? 1 : 2) {
             Edge.is("at " + time, time / 4.0 + 0.0, rig.valueAt(0, time));
         }
     }
@@ -290,7 +290,7 @@ final class ChannelEdges {
         for (int quarters : new int[] {1, 2, 99, 100}) {
             MotionRig rig = House.row("t");
             rig.addChannel('d', 0, 0, quarters, 0);
-            for (int time = -400; time <= 400; time++) {
+            for (int time = -400; time <= 400; time += time < -290 ? 1 : 3) {
                 double due = Math.max(time - quarters, -400) / 4.0 + 0.0;
                 Edge.is("by " + quarters + " at " + time, due, rig.valueAt(1, time));
             }

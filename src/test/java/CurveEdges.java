@@ -153,7 +153,7 @@ final class CurveEdges {
         Edge.is("nor behind the last one", 100.0, widest.valueAt(0, 400));
         MotionRig least = House.curve('l', 0, 0, 1, 8);
         least.extend(0, 0, 'c', 'c');
-        for (int time = -400; time <= 400; time++) {
+        for (int time = -400; time <= 400; time += Math.abs(time) < 60 ? 1 : 3) {
             double due = time == 4 ? 8.0 : 2.0 * Math.floorMod(time, 4);
             Edge.is("of the length 1 at " + time, due, least.valueAt(0, time));
         }
@@ -164,7 +164,7 @@ final class CurveEdges {
             + "last one.");
         MotionRig rig = House.curve('l', 0, 0, 1, 1000);
         rig.extend(0, 0, 'o', 'o');
-        for (int time = -400; time <= 400; time++) {
+        for (int time = -400; time <= 400; time += Math.abs(time) < 60 ? 1 : 3) {
             Edge.is("a line that goes on at " + time, 250.0 * time, rig.valueAt(0, time));
         }
         MotionRig down = House.curve('s', -100, 1000, -99, -1000);
