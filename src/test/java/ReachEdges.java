@@ -174,7 +174,7 @@ final class ReachEdges {
         Edge.refused("no parent", Edge.UNSUPPORTED, rig -> rig.reach(0, 0, 0));
         Edge.refused("the parent is turned by the time", Edge.UNSUPPORTED, rig -> rig.reach(1, 0, 0));
         Edge.refused(() -> chain(0, 0), "one channel for both", Edge.UNSUPPORTED, rig -> rig.reach(1, 0, 0));
-        Edge.is("both are as told", 0, House.furnished().reach(2, 1000, 0) & 0);
+        Edge.is("both are as told", 8 * 6, House.furnished().reach(2, 1000, 0));
     }
 
     /** The arm has its channel full of keys, or the hand, or both. */
